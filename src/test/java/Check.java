@@ -54,8 +54,10 @@ final class Check {
 
     static String padOf(SaltPrices prices) {
         StringBuilder text = new StringBuilder();
-        for (int i = 0; prices.sign(i) >= 0 && i < 1000; i++) {
-            text.append((char) prices.sign(i));
+        int code = prices.sign(0);
+        for (int i = 1; code >= 0 && i <= 80; i++) {
+            text.append((char) code);
+            code = prices.sign(i);
         }
         return text.toString();
     }

@@ -4,7 +4,9 @@ import java.lang.reflect.Method;
 import java.lang.reflect.Modifier;
 import java.nio.file.Files;
 import java.nio.file.Path;
+import java.util.ArrayDeque;
 import java.util.Arrays;
+import java.util.Deque;
 import java.util.Set;
 import java.util.TreeSet;
 import java.util.regex.Matcher;
@@ -74,12 +76,14 @@ public final class LanguageTest {
     }
 
     private static void words(String code) {
-        check.begin("rules 2 to 6 and 13");
-        String[] forbidden = {"\\bthrow\\b", "\\bthrows\\b", "\\btry\\b", "\\bcatch\\b", "\\bassert\\b", "\\bimport\\b",
-            "\\bpackage\\b", "\\bsynchronized\\b", "->", "::", "\\bSystem\\.(?!arraycopy)", "Exact\\(", "\\bprotected\\b",
-            "\\bhashCode\\b", "\\btoString\\b", "\\bequals\\b", "static \\{", "while \\(true\\)", "\\bdouble\\b", "\\bfloat\\b"};
+        check.begin("rules 2 to 6, 9 and 13");
+        String[] forbidden = {"\\bthrows?\\b", "\\btry\\b", "\\bcatch\\b", "\\bassert\\b", "\\bpackage\\b",
+            "\\bsynchronized\\b", "\\bprotected\\b", "::", "Exact\\(", "\\bhashCode\\b", "\\bstatic\\s*\\{",
+            "\\bwhile\\s*\\(\\s*true\\s*\\)", "\\bfor\\s*\\([^;)]*;\\s*;", "\\bSystem\\.(?!arraycopy\\b)",
+            "\\bimport (?!java\\.util\\.(ArrayList|Arrays|Iterator|List);)", "\\)\\s*->", "[(,=]\\s*\\w+\\s*->"};
+        String withoutCases = code.replaceAll("\\bcase\\b[^;{}:]*->|\\bdefault\\s*->", "");
         for (String word : forbidden) {
-            Matcher matcher = Pattern.compile(word).matcher(code);
+            Matcher matcher = Pattern.compile(word).matcher(withoutCases);
             if (matcher.find()) {
                 check.fail("the program has " + matcher.group());
             }
@@ -92,7 +96,7 @@ public final class LanguageTest {
     }
 
     private static void classRules(Class<?> kind, Set<String> faceNames) {
-        check.begin("rules 1, 5 and 11, " + kind.getSimpleName());
+        check.begin("rules 1, 5, 6 and 11, " + kind.getSimpleName());
         int own = 0;
         for (Field field : kind.getDeclaredFields()) {
             if (!Modifier.isStatic(field.getModifiers())) {
@@ -103,6 +107,9 @@ public final class LanguageTest {
         }
         check.due("fields are few", own <= 20 ? 1 : 0, 1);
         for (Method method : kind.getDeclaredMethods()) {
+            if (!kind.isRecord() && method.getName().matches("equals|hashCode|toString")) {
+                check.fail(method.getName() + " is the program's own");
+            }
             boolean isFace = kind == SaltPrices.class && Modifier.isPublic(method.getModifiers());
             if (!isFace && faceNames.contains(method.getName())) {
                 check.fail(method.getName() + " bears the name of a public method");
@@ -113,24 +120,37 @@ public final class LanguageTest {
         }
     }
 
-    /** Methods begin and end at the same indentation, 4 blanks or 8. */
+    /** A block directly inside a class, with parameters ahead of it, is a method's. */
     private static void methodLengths(String code) {
         check.begin("rule 11");
-        String[] lines = code.split("\n");
-        int start = -1;
-        String end = "";
-        for (int i = 0; i < lines.length; i++) {
-            if (start < 0 && lines[i].matches("( {4}| {8})[a-z].*\\) \\{")) {
-                start = i;
-                end = lines[i].replaceAll("[^ ].*", "") + "}";
-            } else if (start >= 0 && lines[i].equals(end)) {
-                if (i - start + 1 > 60) {
-                    check.fail("too long: " + lines[start]);
+        String bare = code.replaceAll("'(\\\\.|[^'\\\\])'", "' '").replaceAll("\"(\\\\.|[^\"\\\\])*\"", "\"\"");
+        Deque<String> kinds = new ArrayDeque<>();
+        Deque<Integer> starts = new ArrayDeque<>();
+        StringBuilder head = new StringBuilder();
+        int line = 1;
+        for (char sign : bare.toCharArray()) {
+            line += sign == '\n' ? 1 : 0;
+            head.append(sign);
+            if (sign == '{') {
+                kinds.push(kindOf(head.toString(), kinds.isEmpty() ? "" : kinds.peek()));
+                starts.push(line);
+            } else if (sign == '}' && !kinds.isEmpty()) {
+                int length = line - starts.pop() + 1;
+                if (kinds.pop().equals("method") && length > 60) {
+                    check.fail("a method of " + length + " lines ends in line " + line + " of the text without comments");
                 }
-                start = -1;
+            }
+            if (sign == '{' || sign == '}' || sign == ';') {
+                head.setLength(0);
             }
         }
-        check.due("every method ends", start, -1);
+    }
+
+    private static String kindOf(String head, String around) {
+        if (Pattern.compile("\\b(class|record|enum|interface)\\b").matcher(head).find()) {
+            return "class";
+        }
+        return around.equals("class") && head.contains(")") ? "method" : "block";
     }
 
     private static String withoutComments(String text) throws IOException {

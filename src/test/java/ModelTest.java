@@ -2,8 +2,13 @@ import java.util.Random;
 
 /** Long runs of calls, the same in every run of the test, on the class and on the model: each answer is compared. */
 public final class ModelTest {
-    private static final int RUNS = 400;
+    private static final int RUNS = 600;
+    /** What an object is used for at most. */
     private static final int CALLS = 512;
+    /** The calls of one change at most: to wipe the pad, to put 80 characters, to find their fault, to carry them out. */
+    private static final int CALLS_AT_ONCE = 13;
+    /** The calls by which all is looked at, at most: of 14 roads and 6 carts. */
+    private static final int CALLS_TO_LOOK_AT_ALL = 300;
     private static final int FAULT_TEXTS = 20000;
     private static final Check check = new Check();
 
@@ -11,6 +16,7 @@ public final class ModelTest {
     private final SaltPrices real = new SaltPrices();
     private final Model model = new Model();
     private final boolean lowPrices;
+    private int calls = 0;
 
     private ModelTest(long seed) {
         random = new Random(seed);
@@ -30,19 +36,24 @@ public final class ModelTest {
         check.end();
     }
 
+    /** Every other run looks at all at its end. */
     private void run() {
-        for (int call = 0; call < 20; call++) {
-            change(call % 2 == 0 ? 1 : 6 + random.nextInt(3));
+        boolean looksAtAll = random.nextBoolean();
+        int most = CALLS - CALLS_AT_ONCE - (looksAtAll ? CALLS_TO_LOOK_AT_ALL : 0);
+        for (int i = 0; i < 20; i++) {
+            change(i % 2 == 0 ? 1 : 6 + random.nextInt(3));
         }
-        for (int call = 20; call < CALLS; call++) {
+        while (calls <= most) {
             if (random.nextInt(5) < 3) {
                 change(random.nextInt(18));
             } else {
                 look(random.nextInt(11));
             }
         }
-        // More calls than an object is used for, but all that can be looked at is compared once.
-        lookAtAll();
+        if (looksAtAll) {
+            lookAtAll();
+        }
+        check.due("calls are at most " + CALLS, calls <= CALLS ? 1 : 0, 1);
     }
 
     /** Mostly within the bounds, sometimes at or just behind them, seldom far away. */
@@ -68,11 +79,11 @@ public final class ModelTest {
     }
 
     private int roadNumber() {
-        return pick(0, Math.max(0, real.count(0) - 1));
+        return pick(0, Math.max(0, model.count(0) - 1));
     }
 
     private int cartNumber() {
-        return pick(0, Math.max(0, real.count(1) - 1));
+        return pick(0, Math.max(0, model.count(1) - 1));
     }
 
     private int somePrice() {
@@ -85,7 +96,7 @@ public final class ModelTest {
 
     /** Seldom any road: else one of the town at which the cart is, if there is one. */
     private int roadOf(int cart) {
-        int roads = real.ofTown(real.ofCart(cart, 0), 1);
+        int roads = model.ofTown(model.ofCart(cart, 0), 1);
         if (roads <= 0 || random.nextInt(8) == 0) {
             return roadNumber();
         }
@@ -197,6 +208,11 @@ public final class ModelTest {
         for (int i = random.nextInt(9); i > 0; i--) {
             characters = characters << 8 | (random.nextInt(30) == 0 ? random.nextInt(256) : 33 + random.nextInt(94));
         }
+        duePut(characters);
+    }
+
+    private void duePut(long characters) {
+        calls++;
         check.due("put(" + characters + ")", real.put(characters), model.put(characters));
     }
 
@@ -206,8 +222,7 @@ public final class ModelTest {
         }
         String text = orders(random);
         for (int i = 0; i < text.length(); i += 8) {
-            long part = Check.packed(text.substring(i, Math.min(text.length(), i + 8)));
-            check.due("put of " + text, real.put(part), model.put(part));
+            duePut(Check.packed(text.substring(i, Math.min(text.length(), i + 8))));
         }
     }
 
@@ -296,23 +311,32 @@ public final class ModelTest {
     }
 
     private void lookAtAll() {
-        for (int i = -1; i < 15; i++) {
-            for (int what = -1; what < 10; what++) {
-                due("ofTown", i, what, 0, real.ofTown(i, what), model.ofTown(i, what));
-                due("ofRoad", i, what, 0, real.ofRoad(i, what), model.ofRoad(i, what));
-                due("ofCart", i, what, 0, real.ofCart(i, what), model.ofCart(i, what));
+        for (int town = -1; town <= 8; town++) {
+            for (int what = 0; what < 4; what++) {
+                due("ofTown", town, what, 0, real.ofTown(town, what), model.ofTown(town, what));
             }
-            due("step", i, 0, 0, real.step(i, 0), model.step(i, 0));
-            due("step", i, 1, 0, real.step(i, 1), model.step(i, 1));
-            due("mostPrice", i, 0, 0, real.mostPrice(i), model.mostPrice(i));
-            due("fewestGuards", i, 0, 0, real.fewestGuards(i), model.fewestGuards(i));
+            due("step", town, 0, 0, real.step(town, 0), model.step(town, 0));
+            due("step", town, 1, 0, real.step(town, 1), model.step(town, 1));
+            due("mostPrice", town, 0, 0, real.mostPrice(town), model.mostPrice(town));
         }
-        for (int what = -1; what < 19; what++) {
+        for (int road = 0; road <= model.count(0); road++) {
+            for (int what = 0; what < 9; what++) {
+                due("ofRoad", road, what, 0, real.ofRoad(road, what), model.ofRoad(road, what));
+            }
+            due("fewestGuards", road, 0, 0, real.fewestGuards(road), model.fewestGuards(road));
+        }
+        for (int cart = 0; cart <= model.count(1); cart++) {
+            for (int what = 0; what < 8; what++) {
+                due("ofCart", cart, what, 0, real.ofCart(cart, what), model.ofCart(cart, what));
+            }
+        }
+        for (int what = 0; what < 18; what++) {
             due("count", what, 0, 0, real.count(what), model.count(what));
         }
     }
 
     private void due(String name, int a, int b, int c, long got, long want) {
+        calls++;
         check.due(name + "(" + a + ", " + b + ", " + c + ")", got, want);
     }
 
