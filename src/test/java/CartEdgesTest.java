@@ -77,23 +77,26 @@ public final class CartEdgesTest extends Edges {
         due("cart(0, 100000) of 6", x.cart(0, 100000), BAD_VALUE);
     }
 
-    /** "A cart comes, without sacks", and it has done nothing so far, also where a cart that had was undone. */
+    /** "A cart comes, without sacks", and it has done nothing so far, also where a cart that had is there no more. */
     private static void promise08NewCartIsEmpty() {
-        SaltPrices x = withFiveSacks(1000, 10);
+        SaltPrices x = new SaltPrices();
+        x.save(0);
+        x.road(0, 1, 10);
         x.guard(0, 9);
+        x.cart(0, 1000);
+        x.buy(0, 5);
         x.go(0, 0, 0);
         x.sell(0, 1);
         x.go(0, 0, 1);
         due("lost", x.ofCart(0, 7), 4);
-        for (int i = 0; i < 6; i++) {
-            x.undo();
-        }
-        due("count(1)", x.count(1), 0);
+        x.buy(0, 1);
+        due("restore(0)", x.restore(0), 0);
         due("cart(3, 8)", x.cart(3, 8), 0);
         int[] empty = {3, 8, 0, 0, 0, 0, 0, 0};
         for (int what = 0; what < empty.length; what++) {
             due("ofCart(0, " + what + ")", x.ofCart(0, what), empty[what]);
         }
+        due("count(3)", x.count(3), 0);
     }
 
     // ---- promise 9

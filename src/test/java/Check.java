@@ -1,12 +1,15 @@
 /** What the tests share: answers that are due, and texts for the pad. */
 final class Check {
-    private static final int SHOWN = 50;
+    /** Of each part, so that many wrong answers of one do not hide another one. */
+    private static final int SHOWN = 10;
     private int wrong = 0;
+    private int shown = 0;
     private int checked = 0;
     private String part = "";
 
     void begin(String newPart) {
         part = newPart;
+        shown = 0;
     }
 
     void due(String call, long got, long want) {
@@ -18,7 +21,8 @@ final class Check {
 
     void fail(String what) {
         wrong++;
-        if (wrong <= SHOWN) {
+        shown++;
+        if (shown <= SHOWN) {
             System.out.println(part + ": " + what);
         }
     }

@@ -482,6 +482,82 @@ public final class LookEdgesTest extends Edges {
         due("10 * 201, with 100 openly", x.worth(0, 1, 0), 2010);
     }
 
+    /** A road from one town to the next one, told from this end or from the other one. */
+    private static void roadOn(SaltPrices x, int town, int toll, boolean fromTheOtherEnd) {
+        if (fromTheOtherEnd) {
+            x.road(town + 1, town, toll);
+        } else {
+            x.road(town, town + 1, toll);
+        }
+    }
+
+    /** "less the toll in these units": of each of 4 roads in a row, the first with the greatest unit. */
+    private static void promise16TollOfEachLeg() {
+        dueTolls(false);
+        dueTolls(true);
+    }
+
+    private static void dueTolls(boolean fromTheOtherEnd) {
+        SaltPrices x = new SaltPrices();
+        for (int town = 0; town < 4; town++) {
+            roadOn(x, town, town + 1, fromTheOtherEnd);
+        }
+        x.price(4, 999);
+        due("worth(3, 1, 1)", x.worth(3, 1, 1), 99500);
+        due("worth(2, 2, 1)", x.worth(2, 2, 1), 9920000);
+        due("worth(1, 3, 1)", x.worth(1, 3, 1), 990000000);
+        due("worth(0, 4, 1)", x.worth(0, 4, 1), 98900000000L);
+    }
+
+    /** The chance is the one of the road that is gone, from either of its ends. */
+    private static void promise16ChanceOfEachRoad() {
+        SaltPrices x = new SaltPrices();
+        x.road(0, 1, 200);
+        x.road(2, 0, 200);
+        x.road(0, 3, 200);
+        x.guard(0, 9);
+        x.guard(1, 2);
+        x.guard(2, 1);
+        x.set(FINE, 30);
+        x.price(0, 50);
+        x.price(1, 200);
+        x.price(2, 190);
+        x.price(3, 50);
+        due("80 * 190 - 20 * 30 over road 1", x.worth(0, 1, 0), 14600);
+        x.price(2, 50);
+        x.price(3, 180);
+        due("90 * 180 - 10 * 30 over road 2", x.worth(0, 1, 0), 15900);
+        x.price(3, 50);
+        due("waiting, not 10 * 200 - 90 * 30 over road 0", x.worth(0, 1, 0), 5000);
+        x.price(0, 190);
+        due("80 * 190 - 20 * 30 from the first town of road 1", x.worth(2, 1, 0), 14600);
+        due("90 * 190 - 10 * 30 from the other town of road 2", x.worth(3, 1, 0), 16800);
+    }
+
+    /** "less chance * FINE * (100 to the power of k - 1)": of each of 4 roads in a row, of which 1 in 10 is found. */
+    private static void promise16FineOfEachLeg() {
+        dueFines(false);
+        dueFines(true);
+    }
+
+    private static void dueFines(boolean fromTheOtherEnd) {
+        SaltPrices x = new SaltPrices();
+        for (int town = 0; town < 4; town++) {
+            roadOn(x, town, 200, fromTheOtherEnd);
+            x.guard(town, 1);
+        }
+        x.price(0, 1);
+        x.price(1, 2);
+        x.price(2, 3);
+        x.price(3, 4);
+        x.price(4, 999);
+        x.set(FINE, 1);
+        due("90 * 999 - 10", x.worth(3, 1, 0), 89900);
+        due("90 * 89900 - 1000", x.worth(2, 2, 0), 8090000);
+        due("90 * 8090000 - 100000", x.worth(1, 3, 0), 728000000);
+        due("90 * 728000000 - 10000000", x.worth(0, 4, 0), 65510000000L);
+    }
+
     /** "If it is told openly alone, no road is gone hidden": not the second one either. */
     private static void promise16OpenlyAlone() {
         SaltPrices x = withRoads(1);

@@ -167,8 +167,8 @@ public final class UndoEdgesTest extends Edges {
     /** "everything is as it was before it": of each change, all that can be looked at. */
     private static void promise28EverythingAsItWas() {
         for (int change = 0; change < CHANGES; change++) {
-            SaltPrices x = full();
-            SaltPrices other = full();
+            SaltPrices x = unlikeItsSlots();
+            SaltPrices other = unlikeItsSlots();
             int answer = doChange(x, change);
             due("change " + change + " answers no error", answer >= 0 ? 1 : 0, 1);
             due("undo() of change " + change, x.undo(), 5);
@@ -211,6 +211,14 @@ public final class UndoEdgesTest extends Edges {
         }
     }
 
+    /** Neither slot holds what undo is to bring back. */
+    private static SaltPrices unlikeItsSlots() {
+        SaltPrices x = full();
+        x.set(LEGS, 2);
+        x.price(6, 60);
+        return x;
+    }
+
     /** Some of all: roads, carts, sacks, trips, losses, settings, both slots, and a full history. */
     private static SaltPrices full() {
         SaltPrices x = new SaltPrices();
@@ -226,6 +234,36 @@ public final class UndoEdgesTest extends Edges {
         x.go(1, 0, 1);
         x.buy(0, 4);
         x.save(0);
+        return x;
+    }
+
+    /** Roads and carts that came in the place of others are the ones that were there before, in each field. */
+    private static void promise28OthersInTheirPlace() {
+        SaltPrices x = inTheirPlace();
+        due("undo()", x.undo(), 5);
+        due("undo()", x.undo(), 4);
+        due("undo()", x.undo(), 3);
+        dueText("all", Everything.of(x), Everything.of(beforeRestore()));
+    }
+
+    /** Roads 0 and 1 and cart 0 with a past, and a slot without them. */
+    private static SaltPrices beforeRestore() {
+        SaltPrices x = new SaltPrices();
+        x.save(0);
+        put(x, "r01*3;r12*4;g0:2;g1:9;c0*5000;b0*9;o0:0;s0*1");
+        x.carryOut();
+        put(x, "h0:1;c2*77");
+        x.carryOut();
+        x.save(1);
+        x.price(0, 5);
+        return x;
+    }
+
+    private static SaltPrices inTheirPlace() {
+        SaltPrices x = beforeRestore();
+        x.restore(0);
+        x.road(5, 6, 7);
+        x.cart(7, 8);
         return x;
     }
 
@@ -315,8 +353,8 @@ public final class UndoEdgesTest extends Edges {
     private static void promise29HowManyCarts() {
         SaltPrices x = new SaltPrices();
         for (int carts = 0; carts <= 6; carts++) {
-            due("save(0)", x.save(0), carts);
             due("save(1)", x.save(1), carts);
+            due("save(0)", x.save(0), carts);
             x.cart(0, 0);
         }
     }
@@ -407,6 +445,13 @@ public final class UndoEdgesTest extends Edges {
         due("count(17)", x.count(17), 0);
     }
 
+    /** BAD_VALUE is told ahead of NOT_POSSIBLE. */
+    private static void promise30OrderOfErrors() {
+        SaltPrices x = new SaltPrices();
+        due("restore(2) where nothing was saved", x.restore(2), BAD_VALUE);
+        due("restore(-1) where nothing was saved", x.restore(-1), BAD_VALUE);
+    }
+
     /** "NOT_POSSIBLE if nothing was saved in it", though something was in the other one. */
     private static void promise30NothingSaved() {
         for (int slot = 0; slot <= 1; slot++) {
@@ -450,6 +495,19 @@ public final class UndoEdgesTest extends Edges {
         x.undo();
         due("restore(0) behind undo", x.restore(0), 2);
         dueText("all again", Everything.of(x), Everything.of(other));
+    }
+
+    /** What was saved comes in the place of other roads and carts, in each field. */
+    private static void promise30OthersInTheirPlace() {
+        SaltPrices x = inTheirPlace();
+        due("restore(1)", x.restore(1), 2);
+        x.price(0, 5);
+        SaltPrices other = beforeRestore();
+        for (int i = 0; i < 4; i++) {
+            other.price(0, 5);
+        }
+        due("count(17)", other.count(17), 6);
+        dueText("all", Everything.of(x), Everything.of(other));
     }
 
     /** "This is a change", also if nothing is different; undo brings back what was before it. */

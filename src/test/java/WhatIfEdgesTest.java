@@ -91,6 +91,18 @@ public final class WhatIfEdgesTest extends Edges {
         dueStep("the last of them", x, 0, 3, 0);
     }
 
+    /** A road elsewhere is no step, though it would bring as much. */
+    private static void promise19RoadElsewhere() {
+        SaltPrices x = withRoads(23, 32, 1, 12);
+        x.set(LEGS, 1);
+        x.price(1, 200);
+        x.price(2, 200);
+        x.price(3, 200);
+        dueStep("over its own road", x, 0, 2, 0);
+        x.toll(2, 1);
+        dueStep("over its own road hidden", x, 0, 2, 1);
+    }
+
     /** The last of 14 roads may be the one. */
     private static void promise19TheLastRoad() {
         SaltPrices x = new SaltPrices();
@@ -128,6 +140,20 @@ public final class WhatIfEdgesTest extends Edges {
         x.set(LEGS, 3);
         dueStep("with three roads", x, 0, NONE, 0);
         dueStep("three roads away with three roads", x, 1, 1, 0);
+    }
+
+    /** Hidden steps at the head of 2, 3 and 4 roads, all of which are gone hidden. */
+    private static void promise19HiddenWithEachLegs() {
+        SaltPrices x = new SaltPrices();
+        for (int town = 0; town < 4; town++) {
+            x.road(town, town + 1, 200);
+            x.guard(town, 1);
+        }
+        x.price(4, 999);
+        for (int legs = 1; legs <= 4; legs++) {
+            x.set(LEGS, legs);
+            dueStep("with LEGS of " + legs, x, 4 - legs, 4 - legs, 1);
+        }
     }
 
     // ---- promise 20
@@ -397,6 +423,13 @@ public final class WhatIfEdgesTest extends Edges {
         for (int i = 0; i < coins.length; i++) {
             due("found with " + coins[i], withFiveSacks(coins[i]).wouldHave(0, 0, 1), dues[i]);
         }
+        SaltPrices x = withFiveSacks(100);
+        x.set(FINE, 19);
+        due("found with a FINE of 19", x.wouldHave(0, 0, 1), 5);
+        x.set(FINE, 0);
+        due("found with a FINE of 0", x.wouldHave(0, 0, 1), 100);
+        x.set(FINE, 500);
+        due("found with a FINE of 500", x.wouldHave(0, 0, 1), 0);
     }
 
     /** Without sacks nothing is paid and nothing is sold. */
